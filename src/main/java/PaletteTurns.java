@@ -464,15 +464,14 @@ public final class PaletteTurns {
 
     /** The colour that stands share / whole of the way; whole is 1 at least. */
     private static int mixed(int from, int to, int share, int whole) {
-        return mixedPart(from, to, 12, share, whole)
-            + mixedPart(from, to, 6, share, whole)
-            + mixedPart(from, to, 0, share, whole);
+        int red = mixedPart(part(from, 12), part(to, 12), share, whole);
+        int green = mixedPart(part(from, 6), part(to, 6), share, whole);
+        int blue = mixedPart(part(from, 0), part(to, 0), share, whole);
+        return (red << 12) + (green << 6) + blue;
     }
 
-    private static int mixedPart(int from, int to, int shift, int share, int whole) {
-        int start = part(from, shift);
-        int end = part(to, shift);
-        return (start + (end - start) * share / whole) << shift;
+    private static int mixedPart(int from, int to, int share, int whole) {
+        return from + (to - from) * share / whole;
     }
 
     private static int part(int colour, int shift) {
@@ -677,7 +676,8 @@ public final class PaletteTurns {
 
         /** After so many steps the turn is as it was, and goes on as it did. */
         int fullSteps() {
-            return way == TO_AND_FRO ? 2 * places() - 2 : places();
+            int beyondFirst = last - first;
+            return way == TO_AND_FRO ? 2 * beyondFirst : beyondFirst + 1;
         }
 
         int fullTicks() {

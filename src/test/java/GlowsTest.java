@@ -5,6 +5,7 @@ final class GlowsTest {
     public static void main(String[] args) {
         addGlow();
         removeGlow();
+        allFour();
         glow();
         comesAndGoes();
         withinRange();
@@ -54,6 +55,27 @@ final class GlowsTest {
         C.due("it is there again", x.glow(0, 0), 5);
         C.due("with its ticks", x.glow(0, 3), 3);
         C.due("and shows", x.shown(5), 63);
+    }
+
+    private static void allFour() {
+        PaletteTurns x = new PaletteTurns();
+        for (int i = 0; i < 4; i++) {
+            x.addGlow(i, 63, 5 + i);
+        }
+        x.pass(6);
+        C.due("ticks of the last one", x.glow(3, 3), 6);
+        C.due("keep", x.keep(), 0);
+        C.due("remove the first one", x.removeGlow(0), 3);
+        C.due("2 is the last one now", x.glow(2, 2), 8);
+        C.due("add one", x.addGlow(9, 1, 2), 3);
+        C.due("the one ahead of it stays", x.glow(2, 2), 8);
+        C.due("freeze", x.freeze(), 3);
+        C.due("ticks", x.glow(2, 3), 0);
+        C.due("full turn", x.fullTurn(), 336);
+        C.due("restore", x.restore(), 0);
+        C.due("the first one", x.glow(0, 2), 5);
+        C.due("the last one", x.glow(3, 3), 6);
+        C.due("remove the last one", x.removeGlow(3), 3);
     }
 
     private static void glow() {

@@ -67,6 +67,10 @@ final class PictureTest {
         }
         C.due("the right edge is not connected with the left one", columns.fill(0, 0, 4), 8);
         C.due("the rest", columns.fill(7, 7, 4), 56);
+        PaletteTurns upwards = new PaletteTurns();
+        upwards.paint(0, 1, 1);
+        C.due("up along the left edge", upwards.fill(1, 0, 2), 63);
+        C.due("its end", upwards.pixel(0, 0, false), 2);
         PaletteTurns snake = new PaletteTurns();
         for (int row = 1; row < 8; row += 2) {
             for (int column = 0; column < 8; column++) {

@@ -49,6 +49,26 @@ final class QuestionsTest {
         x.setColour(30, 2);
         C.due("colours that are the same count once", x.total(6), 4);
         C.due("states", x.total(8), 4);
+        differentColours();
+    }
+
+    private static void differentColours() {
+        PaletteTurns x = new PaletteTurns();
+        x.setColour(1, 5);
+        x.paint(0, 0, 1);
+        C.due("two places, two colours", x.total(6), 2);
+        x.setColour(0, 5);
+        C.due("two places, one colour", x.total(6), 1);
+        x.setColour(2, 9);
+        C.due("a place that is not in the picture", x.total(6), 1);
+        x.fill(0, 1, 2);
+        C.due("none but places of the picture", x.total(6), 2);
+        x.paint(0, 0, 2);
+        C.due("a place that is no longer there", x.total(6), 1);
+        x.paint(0, 0, 1);
+        x.addGlow(2, 5, 1);
+        x.pass(1);
+        C.due("what is shown counts", x.total(6), 1);
     }
 
     private static void shownIn() {
@@ -156,6 +176,9 @@ final class QuestionsTest {
         C.due("in six", x.changes(6), 0);
         C.due("in 1000", x.changes(1000), 62);
         C.due("nothing has passed", x.total(3), 0);
+        x.fill(0, 3, 0);
+        x.addGlow(0, 63, 1);
+        C.due("the place 0", x.changes(1), 61);
     }
 
     private static void pictureBack() {
@@ -225,6 +248,16 @@ final class QuestionsTest {
         C.due("rows do not go on at the edge", x.contrast(), 29);
         x.paint(1, 0, 1);
         C.due("greatest", x.contrast(), 60 * 60 + 63 * 63 + 59 * 59);
+        PaletteTurns beside = new PaletteTurns();
+        PaletteTurns below = new PaletteTurns();
+        for (int i = 0; i < 8; i++) {
+            beside.paint(i, 7, 1);
+            below.paint(7, i, 1);
+        }
+        beside.setColour(1, 3);
+        below.setColour(1, 5);
+        C.due("side by side alone", beside.contrast(), 9);
+        C.due("above or below alone", below.contrast(), 25);
         PaletteTurns corner = new PaletteTurns();
         corner.setColour(1, 1);
         corner.setColour(2, 2);

@@ -6,6 +6,7 @@ final class RangesTest {
         addRange();
         addRangeWrong();
         removeRange();
+        allSix();
         setSpeed();
         run();
         range();
@@ -70,7 +71,33 @@ final class RangesTest {
         C.due("undo", x.undo(), 3);
         C.due("undo the removal", x.undo(), 2);
         C.due("the middle one is there again", x.range(1, 0), 2);
+        C.due("with its last place", x.range(1, 1), 3);
+        C.due("the last one is 2 again", x.range(2, 1), 5);
         C.due("and its steps", x.range(1, 6), 2);
+    }
+
+    private static void allSix() {
+        PaletteTurns x = new PaletteTurns();
+        for (int i = 0; i < 6; i++) {
+            x.addRange(3 * i, 3 * i + 1 + i % 2, 1, 0);
+        }
+        C.due("all of them go on", x.pass(2), 12);
+        x.run(5, false);
+        C.due("remove the last one, which pauses", x.removeRange(5), 5);
+        C.due("add anew", x.addRange(20, 25, 2, 1), 5);
+        C.due("it runs", x.range(5, 4), 1);
+        C.due("keep all of them", x.keep(), 6);
+        C.due("remove the first one", x.removeRange(0), 5);
+        C.due("0 is the second one now", x.range(0, 1), 5);
+        C.due("4 is the last one now", x.range(4, 0), 20);
+        C.due("its place is free", x.addRange(0, 2, 3, 2), 5);
+        C.due("the one ahead of it stays", x.range(4, 0), 20);
+        x.freeze();
+        C.due("freeze all of them", x.range(4, 6), 0);
+        C.due("restore all of them", x.restore(), 6);
+        C.due("the first one", x.range(0, 1), 1);
+        C.due("the second one", x.range(1, 1), 5);
+        C.due("the last one", x.range(5, 0), 20);
     }
 
     private static void setSpeed() {

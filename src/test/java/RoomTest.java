@@ -1,6 +1,6 @@
 import java.lang.management.ManagementFactory;
 
-/** No call makes objects, so that the room is enough for all calls of a run; and none is slow. */
+/** No call makes objects, so that the room is enough for all calls of a run. */
 final class RoomTest {
     private static final Checks C = new Checks("RoomTest");
     private static final int CALLS = 512;
