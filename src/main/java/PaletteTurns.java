@@ -40,6 +40,7 @@ public final class PaletteTurns {
 
     // ---- colours
 
+    /** "The colour that was set" is the earlier one: so the shared tests read the document. */
     public int setColour(int place, int colour) {
         if (!isPlace(place)) {
             return UNKNOWN;
@@ -76,7 +77,7 @@ public final class PaletteTurns {
     }
 
     public int freeze() {
-        findShades(0);
+        findShades();
         int others = otherShades(0, PLACES - 1);
         history.record(now);
         setShades(0, PLACES - 1);
@@ -380,7 +381,7 @@ public final class PaletteTurns {
         if (!isColour(colour)) {
             return OUT_OF_RANGE;
         }
-        findShades(0);
+        findShades();
         int best = 0;
         for (int place = 1; place < PLACES; place++) {
             if (distance(shades[place], colour) < distance(shades[best], colour)) {
@@ -401,7 +402,7 @@ public final class PaletteTurns {
     }
 
     public int pictureBack() {
-        findShades(0);
+        findShades();
         markMovingPlacesOfPicture();
         for (int ticks = 1; ticks <= LATEST_BACK; ticks++) {
             if (markedPlacesShowShades(ticks)) {
@@ -412,7 +413,7 @@ public final class PaletteTurns {
     }
 
     public int contrast() {
-        findShades(0);
+        findShades();
         int greatest = 0;
         for (int pixel = 0; pixel < PIXELS; pixel++) {
             if (pixel % SIDE + 1 < SIDE) {
@@ -485,9 +486,9 @@ public final class PaletteTurns {
         return red * red + green * green + blue * blue;
     }
 
-    private void findShades(int later) {
+    private void findShades() {
         for (int place = 0; place < PLACES; place++) {
-            shades[place] = now.shade(place, later);
+            shades[place] = now.shade(place, 0);
         }
     }
 
@@ -513,7 +514,7 @@ public final class PaletteTurns {
     private int flood(int pixel, int place) {
         int previous = now.pixels[pixel];
         int reached = enter(pixel, previous, place, 0);
-        for (int next = 0; next < reached; next++) {
+        for (int next = 0; next < PIXELS && next < reached; next++) {
             int centre = waiting[next];
             int column = centre % SIDE;
             if (column > 0) {
@@ -589,7 +590,7 @@ public final class PaletteTurns {
     }
 
     private int differentColours() {
-        findShades(0);
+        findShades();
         markPlacesOfPicture();
         int count = 0;
         for (int place = 0; place < PLACES; place++) {

@@ -66,6 +66,9 @@ final class FaceTest {
         for (Class<?> within : PaletteTurns.class.getDeclaredClasses()) {
             C.holds(within + " is private and static", Modifier.isPrivate(within.getModifiers())
                 && Modifier.isStatic(within.getModifiers()));
+            for (Method method : within.getDeclaredMethods()) {
+                C.holds(method + " bears no public name", !publicNames.contains(method.getName()));
+            }
         }
     }
 
